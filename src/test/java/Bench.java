@@ -1,96 +1,125 @@
-/** A machine with one instruction at place 100, C in register 3 and M at place 1000 unless said otherwise. */
+import java.util.ArrayList;
+import java.util.List;
+import java.util.function.Consumer;
+
+/**
+ * One instruction in an object that is in use: at place 100, on register 3 and the word at 1000 unless said otherwise.
+ * Whatever the instruction is due to do, all words that it is not said to change are looked at, too.
+ */
 final class Bench {
     static final int AT = 100;
     static final int AC = 3;
     static final int M_AT = 1000;
+    private static final int DONE_BEFORE = 5;
 
-    /** Few enough to be read twice within the 512 calls that an object is promised for. */
-    private static final int[] LOOKED_AT = {0, 1, 2, 3, 4, 5, 6, 7, 8, 9, 10, 11, 12, 13, 14, 15,
-        AT - 1, AT, AT + 1, 499, 500, 501, 599, 600, 601, M_AT - 1, M_AT, M_AT + 1, 2000, 4094, 4095};
-
-    final WordMill mill = new WordMill();
     private final Checks checks;
     private final String name;
+    private final int op;
+    private final List<Consumer<Scene>> prepared = new ArrayList<>();
+    private int at = AT;
+    private int ac = AC;
+    private boolean indirect = false;
+    private int x = 0;
+    private int y = M_AT;
 
-    Bench(Checks checks, String name) {
+    private Bench(Checks checks, String name, int op) {
         this.checks = checks;
-        this.name = name;
-        mill.go(AT);
+        this.name = "op " + Integer.toOctalString(op) + ", " + name;
+        this.op = op;
     }
 
+    static Bench named(Checks checks, String name, int op) {
+        return new Bench(checks, name, op);
+    }
+
+    /** C and M are these. */
     static Bench of(Checks checks, int op, long c, long m) {
-        return with(checks, op, c, m, M_AT);
+        return new Bench(checks, "c=" + c + " m=" + m, op).put(AC, c).put(M_AT, m);
     }
 
+    /** C and E are these. */
     static Bench immediate(Checks checks, int op, long c, int e) {
-        return with(checks, op, c, 0, e);
-    }
-
-    private static Bench with(Checks checks, int op, long c, long m, int y) {
-        String name = "op " + Integer.toOctalString(op) + " c=" + c + " m=" + m + " y=" + y;
-        Bench bench = new Bench(checks, name);
-        bench.mill.put(AC, c);
-        bench.mill.put(M_AT, m);
-        bench.mill.code(AT, op, AC, false, 0, y);
-        return bench;
+        return new Bench(checks, "c=" + c + " e=" + e, op).put(AC, c).y(e);
     }
 
     Bench put(int place, long w) {
-        mill.put(place, w);
+        prepared.add(scene -> scene.put(place, w));
         return this;
     }
 
-    Bench code(int op, int ac, boolean indirect, int x, int y) {
-        mill.code(AT, op, ac, indirect, x, y);
+    /** A word with parts, as an indirection reads it. */
+    Bench parts(int place, boolean itsIndirect, int itsX, int itsY) {
+        prepared.add(scene -> scene.code(place, 0777, 15, itsIndirect, itsX, itsY));
         return this;
     }
 
-    /** The instruction is done and PC goes to a place. */
-    Bench goesTo(int place) {
-        checks.same(name + ": run(1)", mill.run(1), 0);
-        checks.same(name + ": count(0)", mill.count(0), place);
-        checks.same(name + ": count(2)", mill.count(2), 1);
+    Bench at(int place) {
+        at = place;
         return this;
     }
 
-    Bench goesOn() {
-        return goesTo(AT + 1);
+    Bench ac(int register) {
+        ac = register;
+        return this;
     }
 
-    /** The instruction has a fault, and no word looked at and no count is other than before. */
-    Bench faults(int fault) {
-        long[] before = words();
-        int pc = mill.count(0);
-        int all = mill.count(1);
+    Bench indirect() {
+        indirect = true;
+        return this;
+    }
+
+    Bench x(int register) {
+        x = register;
+        return this;
+    }
+
+    Bench y(int number) {
+        y = number;
+        return this;
+    }
+
+    private Scene scene() {
+        Scene scene = Scene.used(checks, name);
+        for (Consumer<Scene> each : prepared) {
+            each.accept(scene);
+        }
+        return scene.code(at, op, ac, indirect, x, y).go(at);
+    }
+
+    /** The instruction is done, PC goes to a place, and these words are so: a place, its word, and so on. */
+    void goesTo(int place, long... changed) {
+        answersOnce(0, place, changed);
+    }
+
+    void goesOn(long... changed) {
+        goesTo(at + 1, changed);
+    }
+
+    /** The run ends behind the instruction, which does nothing else. */
+    void ends() {
+        answersOnce(-1, at + 1);
+    }
+
+    private void answersOnce(int answer, int place, long... changed) {
+        Scene scene = scene();
+        checks.same(name + ": run(1)", scene.play().run(1), answer);
+        long[] all = new long[changed.length + 6];
+        System.arraycopy(changed, 0, all, 6, changed.length);
+        all[0] = Scene.PC;
+        all[1] = place;
+        all[2] = Scene.DONE_IN_ALL;
+        all[3] = DONE_BEFORE + 1;
+        all[4] = Scene.DONE_IN_RUN;
+        all[5] = 1;
+        scene.changes("run(1)", mill -> mill.run(1), all);
+    }
+
+    /** The instruction does nothing, PC is its place, it is not counted, and it has the same fault when run again. */
+    void faults(int fault) {
+        Scene scene = scene();
+        WordMill mill = scene.play();
         checks.same(name + ": run(1)", mill.run(1), fault);
-        checks.same(name + ": count(0)", mill.count(0), pc);
-        checks.same(name + ": count(1)", mill.count(1), all);
-        checks.same(name + ": count(2)", mill.count(2), 0);
-        long[] after = words();
-        for (int i = 0; i < after.length; i++) {
-            checks.same(name + ": word(" + LOOKED_AT[i] + ")", after[i], before[i]);
-        }
-        return this;
-    }
-
-    Bench word(int place, long due) {
-        checks.same(name + ": word(" + place + ")", mill.word(place), due);
-        return this;
-    }
-
-    Bench c(long due) {
-        return word(AC, due);
-    }
-
-    Bench m(long due) {
-        return word(M_AT, due);
-    }
-
-    private long[] words() {
-        long[] words = new long[LOOKED_AT.length];
-        for (int i = 0; i < words.length; i++) {
-            words[i] = mill.word(LOOKED_AT[i]);
-        }
-        return words;
+        checks.same(name + ": run(9) again", mill.run(9), fault);
+        scene.changes("run(1)", each -> each.run(1), Scene.DONE_IN_RUN, 0);
     }
 }

@@ -32,7 +32,7 @@ final class Checks {
         }
     }
 
-    private static String thrownBy(Runnable call) {
+    static String thrownBy(Runnable call) {
         try {
             call.run();
             return "nothing";

@@ -1,23 +1,33 @@
 /** Promise 5. */
 public final class GoTest {
+    private static final Checks CHECKS = new Checks();
+
     public static void main(String[] args) {
-        Checks checks = new Checks();
-        WordMill mill = new WordMill();
-        int[] good = {4095, 0, 1, 2048};
+        goesToPlaces();
+        refusesOtherPlaces();
+        runsFromThere();
+        CHECKS.end();
+    }
+
+    /** "PC is a place" (0 .. 4095): both ends and their neighbours inside; nothing but PC is other than before. */
+    private static void goesToPlaces() {
+        int[] good = {0, 1, 15, 16, 2048, 4094, 4095};
         for (int place : good) {
-            mill.go(place);
-            checks.same("PC after go(" + place + ")", mill.count(0), place);
+            Scene.used(CHECKS, "good place").changes("go(" + place + ")", mill -> mill.go(place), Scene.PC, place);
         }
-        int[] bad = {-1, 4096, Integer.MIN_VALUE, Integer.MAX_VALUE};
+    }
+
+    /** "Bad is a number out of range", of go. */
+    private static void refusesOtherPlaces() {
+        int[] bad = {-1, 4096, -4096, 8191, 65536, Integer.MIN_VALUE, Integer.MAX_VALUE};
         for (int place : bad) {
-            checks.refused("go(" + place + ")", () -> mill.go(place));
-            checks.same("PC after go(" + place + ")", mill.count(0), 2048);
+            Scene.used(CHECKS, "bad place").refuses("go(" + place + ")", mill -> mill.go(place));
         }
-        mill.code(4095, 0201, 1, false, 0, 9);
-        mill.go(4095);
-        checks.same("run at 4095", mill.run(1), 0);
-        checks.same("register 1", mill.word(1), 9);
-        checks.same("PC behind 4095", mill.count(0), 0);
-        checks.end();
+    }
+
+    private static void runsFromThere() {
+        Bench.immediate(CHECKS, 0201, 5, 9).at(4095).goesTo(0, Bench.AC, 9);
+        Bench.immediate(CHECKS, 0201, 5, 9).at(16).goesTo(17, Bench.AC, 9);
+        Bench.immediate(CHECKS, 0201, 5, 9).at(0).goesTo(1, Bench.AC, 9);
     }
 }
