@@ -16,7 +16,7 @@ public final class OpsTest {
         CHECKS.end();
     }
 
-    private static boolean isKnown(int op) {
+    static boolean isKnown(int op) {
         return KNOWN.contains(op) || (op >= 0300 && op <= 0377);
     }
 
