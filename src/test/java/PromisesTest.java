@@ -23,6 +23,7 @@ public final class PromisesTest {
         countKnowsNothingElse();
         endIsCounted();
         twentiethIndirectionStands();
+        lastCallIsAsGoodAsTheFirst();
         CHECKS.end();
     }
 
@@ -219,5 +220,15 @@ public final class PromisesTest {
                 .go(100).run(3, -1).word(1, 4095).word(2, 5).counts(103, 8, 3)
                 .code(720, 0, 0, true, 0, 4096)
                 .go(100).run(3, 2).word(1, 4096).word(2, 5).counts(101, 9, 1);
+    }
+
+    /** "An object is used for at most 512 calls": this one is used for all of them. */
+    private static void lastCallIsAsGoodAsTheFirst() {
+        Story story = story("512 calls").code(100, 0354, 0, 200).code(102, 0254, 0, 100).go(100);
+        for (int turn = 1; turn <= 169; turn++) {
+            story.run(2, 0).word(200, turn).count(1, 2 * turn);
+        }
+        story.run(1, 0).word(200, 170);
+        CHECKS.same("calls of the story", story.calls(), 512);
     }
 }

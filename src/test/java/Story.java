@@ -23,6 +23,10 @@ final class Story {
         return name + ", call " + calls + ": " + text;
     }
 
+    int calls() {
+        return calls;
+    }
+
     Story put(int place, long w) {
         call("put");
         mill.put(place, w);
